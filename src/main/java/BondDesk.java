@@ -527,6 +527,9 @@ public final class BondDesk {
         static final int FIRST = 20160101;
         static final int LAST = 20661231;
 
+        // The days of a year ahead of each month, without a February 29.
+        private static final int[] AHEAD = {0, 31, 59, 90, 120, 151, 181, 212, 243, 273, 304, 334};
+
         static int yearOf(int date) {
             return date / 10000;
         }
@@ -557,13 +560,11 @@ public final class BondDesk {
 
         // The year 2016 is the first of four and has the day more, so (years + 3) / 4 are its likes.
         static int dayNumber(int date) {
-            int year = yearOf(date);
-            int years = year - FIRST_YEAR;
-            int day = 365 * years + (years + 3) / 4 + dayOf(date) - 1;
-            for (int month = 1; month < monthOf(date); month++) {
-                day += monthLength(year, month);
-            }
-            return day;
+            int years = date / 10000 - FIRST_YEAR;
+            int month = date / 100 % 100;
+            int ahead = month >= 1 && month <= AHEAD.length ? AHEAD[month - 1] : 0;
+            int leap = month > 2 && years % 4 == 0 ? 1 : 0;
+            return 365 * years + (years + 3) / 4 + ahead + leap + date % 100 - 1;
         }
 
         static int dateOf(int day) {
@@ -615,6 +616,8 @@ public final class BondDesk {
         final int way;
         final int regularBegin;
         final int[] dates;
+        final long firstDays;
+        final long firstYear;
 
         Schedule(int issue, int end, int rate, int perYear, int way, int coupons) {
             this.issue = issue;
@@ -627,6 +630,8 @@ public final class BondDesk {
             for (int i = 0; i < dates.length; i++) {
                 dates[i] = dateBack(end, dates.length - 1 - i, perYear);
             }
+            firstDays = daysCounted(issue, dates.length > 0 ? dates[0] : end);
+            firstYear = yearOfPeriod(0);
         }
 
         static int dateBack(int end, int steps, int perYear) {
@@ -655,8 +660,8 @@ public final class BondDesk {
         }
 
         long couponFor(int index, long face) {
-            if (index == 0 && regularBegin < issue && dates.length > 0) {
-                return interest(face, issue, dates[0], 0);
+            if (index == 0 && regularBegin < issue) {
+                return firstYear <= 0 ? 0 : face * rate * firstDays / firstYear;
             }
             long divisor = 10000L * perYear;
             return divisor <= 0 ? 0 : face * rate / divisor;
@@ -667,15 +672,15 @@ public final class BondDesk {
             if (date < issue || index >= dates.length) {
                 return 0;
             }
-            return interest(face, beginOf(index), date, index);
-        }
-
-        private long interest(long face, int from, int to, int index) {
-            long days = way == 0 ? Dates.daysOf30(from, to) : Dates.daysBetween(from, to);
             long divisor = yearOfPeriod(index);
-            return divisor <= 0 ? 0 : face * rate * days / divisor;
+            return divisor <= 0 ? 0 : face * rate * daysCounted(beginOf(index), date) / divisor;
         }
 
+        private long daysCounted(int from, int to) {
+            return way == 0 ? Dates.daysOf30(from, to) : Dates.daysBetween(from, to);
+        }
+
+        // By what the days of a period are divided, so that a whole year at all of the rate is the face.
         private long yearOfPeriod(int index) {
             if (way == 2) {
                 return 3650000;
@@ -736,8 +741,9 @@ public final class BondDesk {
             return isGone() ? 0 : schedule.accruedFor(date, face());
         }
 
+        // Asked only of a bond that is there.
         long fullPrice(int today, int price) {
-            return face() * price / ALL + accruedOn(today);
+            return face() * price / ALL + schedule.accruedFor(today, face());
         }
 
         private boolean isEnd(int index) {
