@@ -16,6 +16,7 @@ public final class BondsTest {
         coupon();
         firstCoupon();
         accrued();
+        accruedInFifths();
         accruedOn31();
         accruedFirstPeriod();
         accruedByFace();
@@ -307,6 +308,10 @@ public final class BondsTest {
         coupon(desk, 0, 1, 20260110, 20260113, 20250710, 1665);
         desk.addBond(20250110, 20270110, 333, 12, 0);
         coupon(desk, 1, 23, 20270110, 20270111, 20261210, 277);
+        for (int way = 1; way <= 3; way++) {
+            int bond = desk.addBond(20250110, 20270110, 333, 2, way);
+            coupon(desk, bond, 0, 20250710, 20250711, 20250110, 1665);
+        }
         Check.badIndex(desk, "coupon(0, -1, 0)", () -> desk.coupon(0, -1, 0));
         Check.badIndex(desk, "coupon(0, 4, 0)", () -> desk.coupon(0, 4, 0));
         Check.badIndex(desk, "coupon(0, 0, -1)", () -> desk.coupon(0, 0, -1));
@@ -355,6 +360,16 @@ public final class BondsTest {
             Check.badArgument(desk, "accrued(0, 20670101)", () -> desk.accrued(0, 20670101));
             Check.badIndex(desk, "accrued(1, 20260230)", () -> desk.accrued(1, 20260230));
         }
+    }
+
+    // 73 days are a fifth of 365, 72 days one of 360.
+    private static void accruedInFifths() {
+        BondDesk desk = new BondDesk();
+        desk.addBond(20250101, 20270101, 2000, 1, 1);
+        desk.addBond(20250101, 20270101, 2000, 1, 2);
+        accrued(desk, 0, 20260314, 4000);
+        accrued(desk, 1, 20260315, 4000);
+        accrued(desk, 1, 20260314, 3945);
     }
 
     private static void accruedOn31() {

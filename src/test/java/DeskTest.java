@@ -156,6 +156,7 @@ public final class DeskTest {
         Check.same("no pieces", 0, () -> desk.bond(0, 10));
         passCall();
         passToFactor0();
+        passOneBehindTheOther();
     }
 
     private static void passCall() {
@@ -189,6 +190,33 @@ public final class DeskTest {
         Check.same("it ended", 1, () -> desk.bond(0, 9));
         Check.same("nothing is left", 0, () -> desk.bond(0, 5));
         Check.same("there is none", 0L, () -> desk.count(4));
+    }
+
+    // At a rate of 0 the worth behind the first coupon is 110000: only more than the price calls.
+    private static void passOneBehindTheOther() {
+        BondDesk desk = new BondDesk();
+        desk.setRate(0);
+        desk.addBond(20250109, 20270109, 1000, 1, 0);
+        for (int end = 20260109; end <= 20260115; end += 3) {
+            desk.addBond(20250109, end, 0, 1, 0);
+            desk.addBond(20250109, end + 10000, 1000, 1, 0);
+        }
+        desk.setCall(0, 20260101, 11000);
+        for (int i = 0; i < 7; i++) {
+            desk.buy(i, 1, 9000);
+            if (i > 0 && i % 2 == 0) {
+                desk.setCall(i, 20260101, 10000);
+            }
+        }
+        Check.same("on Friday", 10000L + 100000 + 10000 + 100000, () -> desk.pass(8));
+        paid(desk, 20000, 0, 100000, 100000);
+        Check.same("not called at its worth", 0, () -> desk.bond(0, 9));
+        desk.setCall(0, 20260101, 10999);
+        Check.same("on Monday", 100000L + 10000 + 100000, () -> desk.pass(3));
+        Check.same("on Thursday", 100000L + 10000 + 100000, () -> desk.pass(3));
+        paid(desk, 40000, 0, 300000, 300000);
+        Check.same("not called behind its date", 0, () -> desk.bond(0, 9));
+        Check.same("one is there", 1L, () -> desk.count(4));
     }
 
     private static void passOverHolidays() {
@@ -386,6 +414,7 @@ public final class DeskTest {
         desk.pass(1);
         rungs(desk, 2027, 2028, 500);
         ladderOfLittle();
+        ladderOfNothing();
     }
 
     // A face of 10 cents: the cash buys more of it than is told.
@@ -407,6 +436,33 @@ public final class DeskTest {
         desk.setRate(2000);
         desk.addBond(20250601, 20280601, 0, 1, 0);
         rungs(desk, 2027, 2028, 200000000 / (desk.worth(0, 2000) + desk.worth(2, 2000)));
+    }
+
+    // A face of 10 cents that is paid in 40 years is worth nothing today; it is a rung all the same.
+    private static void ladderOfNothing() {
+        BondDesk desk = new BondDesk();
+        desk.setRate(2000);
+        desk.addBond(20250105, 20660105, 0, 1, 0);
+        desk.addBond(20250101, 20660401, 0, 1, 0);
+        desk.addBond(20250105, 20650105, 0, 1, 0);
+        desk.setSink(0, 20260101, 4999);
+        desk.setSink(2, 20260101, 4950);
+        desk.pass(4);
+        desk.setSink(0, 20260101, 5000);
+        desk.setSink(2, 20260101, 4950);
+        desk.pass(365);
+        desk.setSink(0, 20260101, 0);
+        desk.setSink(2, 20260101, 0);
+        Check.same("a cent in 40 years", 0, () -> desk.worth(0, 2000));
+        rungs(desk, 2066, 2066, 0);
+        desk.setRate(0);
+        rungs(desk, 2065, 2065, 200000);
+        rungs(desk, 2065, 2066, 200000000 / 1010);
+        desk.setRate(700);
+        Check.same("76 cents and nothing", "76 0", () -> desk.worth(2, 700) + " " + desk.worth(0, 700));
+        rungs(desk, 2065, 2066, 1000000);
+        desk.setRate(2000);
+        rungs(desk, 2065, 2066, 0);
     }
 
     private static void ladderMissing() {

@@ -7,11 +7,13 @@ public final class ModelTest {
 
     private final Random random;
     private final int seed;
+    private final boolean slow;
     private final BondDesk desk = new BondDesk();
     private final Model model = new Model();
 
     private ModelTest(int seed) {
         this.seed = seed;
+        slow = seed % 2 == 0;
         random = new Random(seed);
     }
 
@@ -127,8 +129,8 @@ public final class ModelTest {
     private void askBond(int kind) {
         int bond = anyBond();
         int date = anyDate();
-        int part = random.nextInt(3) == 0 ? 0 : random.nextBoolean() ? in(0, 5000) : in(0, 500);
-        int price = rarely() ? in(8000, 15000) : random.nextInt(4) == 0 ? 0 : in(8000, 11000);
+        int part = random.nextInt(6) == 0 ? in(0, 5000) : random.nextInt(3) == 0 ? 0 : in(0, 400);
+        int price = random.nextInt(5) == 0 ? in(8000, 15000) : random.nextBoolean() ? 0 : in(9800, 12000);
         int trade = random.nextInt(5) == 0 ? in(1, 30000) : in(8000, 12000);
         int rate = random.nextInt(4) == 0 ? in(0, 5000) : in(0, 1500);
         int what = in(0, 10);
@@ -157,7 +159,7 @@ public final class ModelTest {
         int pieces = random.nextInt(3) == 0 ? in(1, 1000) : in(1, 150);
         int price = random.nextInt(5) == 0 ? in(1, 30000) : in(8000, 12000);
         int rate = in(0, 2000);
-        int days = random.nextInt(3) == 0 ? in(1, 400) : in(1, 20);
+        int days = random.nextInt(slow ? 40 : 5) == 0 ? in(1, 400) : in(1, slow ? 5 : 30);
         int what = in(0, 11);
         int year = random.nextInt(4) == 0 ? in(2016, 2066) : (int) model.count(0) / 10000 + random.nextInt(4);
         int to = year + random.nextInt(3) - (rarely() ? 1 : 0);

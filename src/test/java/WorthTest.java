@@ -3,6 +3,7 @@ public final class WorthTest {
     public static void main(String[] args) {
         worthOfOnePayment();
         worthOfTwoPayments();
+        worthOfMonths();
         worthWithSinking();
         worthOnDays();
         yields();
@@ -10,6 +11,7 @@ public final class WorthTest {
         moves();
         callsAt();
         callsAtWithSinking();
+        callsAtOfLittle();
         callsAtOnSunday();
         called();
         bad();
@@ -50,6 +52,18 @@ public final class WorthTest {
         worth(desk, 1000, 9090 + 90909);
         desk.setCall(0, 20260101, 8000);
         worth(desk, 1000, 9090 + 90909);
+    }
+
+    // Payments of 5000 in 181 days and of 105000 half a year later, or of 1000 and 101000 in months.
+    private static void worthOfMonths() {
+        BondDesk desk = new BondDesk();
+        desk.addBond(20260101, 20270101, 1000, 2, 0);
+        long first = 3650000000000000L / (3650000 + 600 * 181);
+        worth(desk, 600, (int) (5000 * first / 1000000000 + 105000 * (first * 20000 / 20600) / 1000000000));
+        desk.addBond(20260101, 20260301, 1200, 12, 0);
+        long month = 3650000000000000L / (3650000 + 600 * 31);
+        Check.same("worth(1, 600)", 1000 * month / 1000000000 + 101000 * (month * 120000 / 120600) / 1000000000,
+                () -> desk.worth(1, 600));
     }
 
     // The first coupon is paid with half of the face, the second one is of half of it.
@@ -165,6 +179,17 @@ public final class WorthTest {
         desk.setSink(0, 20270102, 5000);
         desk.setCall(0, 20270101, 10000);
         callsAt(desk, 0, 999);
+    }
+
+    // Of a face of 10 cents 11 are paid a year later: more than 10 at a rate of 0 alone.
+    private static void callsAtOfLittle() {
+        BondDesk desk = new BondDesk();
+        desk.addBond(20260101, 20290101, 1000, 1, 0);
+        desk.setSink(0, 20270101, 4999);
+        desk.pass(365);
+        Check.same("what is left", 1, () -> desk.setSink(0, 20280101, 5000));
+        desk.setCall(0, 20280101, 10000);
+        callsAt(desk, 0, 0);
     }
 
     private static void callsAtOnSunday() {
