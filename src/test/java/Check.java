@@ -1,5 +1,9 @@
+import java.util.function.Function;
+import java.util.function.Supplier;
+
 /** Counts and prints the answers of a test that are not the ones that are due. */
 final class Check {
+    private static String about = "";
     private static int checked;
     private static int wrong;
 
@@ -20,11 +24,16 @@ final class Check {
         }
     }
 
+    /** What all answers from now on are about: it is printed ahead of each one that is wrong. */
+    static void about(String what) {
+        about = what;
+    }
+
     static void same(String what, String due, String got) {
         checked++;
         if (!due.equals(got)) {
             wrong++;
-            System.out.println(what + " answered " + got + ", due is " + due);
+            System.out.println(about + what + " answered " + got + ", due is " + due);
         }
     }
 
@@ -49,6 +58,29 @@ final class Check {
 
     static void badState(BondDesk desk, String what, Call call) {
         bad(desk, what, "IllegalState", call);
+    }
+
+    /** A call that throws, behind which the desk is as one that was made alike and was not called. */
+    static void refused(String what, String exception, Supplier<BondDesk> made, Function<BondDesk, Object> call) {
+        BondDesk desk = made.get();
+        same(what, "throws." + exception + "Exception", () -> call.apply(desk));
+        same(what + " changes nothing", Desks.portrait(made.get()), Desks.portrait(desk));
+    }
+
+    static void refusedArgument(String what, Supplier<BondDesk> made, Function<BondDesk, Object> call) {
+        refused(what, "IllegalArgument", made, call);
+    }
+
+    static void refusedIndex(String what, Supplier<BondDesk> made, Function<BondDesk, Object> call) {
+        refused(what, "IndexOutOfBounds", made, call);
+    }
+
+    static void refusedState(String what, Supplier<BondDesk> made, Function<BondDesk, Object> call) {
+        refused(what, "IllegalState", made, call);
+    }
+
+    static int checked() {
+        return checked;
     }
 
     static int wrong() {
