@@ -3,12 +3,6 @@ import java.util.function.Supplier;
 
 /** The boundary cases of promises 6 to 12, each sentence in a test of its own. */
 public final class BondsEdgesTest {
-    private static final int[] NO_DATES = {20151231, 20670101, 20260001, 20261301, 20260100, 20260132, 20260229,
-        20260431, 0, -20260101, Integer.MAX_VALUE, Integer.MIN_VALUE};
-
-    // On a busy desk there are the bonds 0 to 3.
-    private static final int[] NO_BONDS = {-1, 4, 9, 10, Integer.MAX_VALUE, Integer.MIN_VALUE};
-
     public static void main(String[] args) {
         Edges.run(BondsEdgesTest.class);
     }
@@ -97,7 +91,7 @@ public final class BondsEdgesTest {
 
     @Says(at = "Promise 6", words = "if one of both is no date")
     static void addsOnNoDate() {
-        for (int date : NO_DATES) {
+        for (int date : Desks.NO_DATES) {
             refuses(Desks::busy, date, 20300101, 100, 1, 0);
             refuses(Desks::busy, 20250101, date, 100, 1, 0);
             refuses(Desks::busy, date, date, 100, 1, 0);
@@ -285,7 +279,7 @@ public final class BondsEdgesTest {
 
     @Says(at = "Promise 7", words = "if there is no such bond")
     static void sinksNoBond() {
-        for (int bond : NO_BONDS) {
+        for (int bond : Desks.NO_BONDS) {
             Check.refusedIndex("setSink of " + bond, Desks::busy, desk -> desk.setSink(bond, 20260101, 1));
         }
         Check.refusedIndex("setSink where there is none", BondDesk::new, desk -> desk.setSink(0, 20260101, 1));
@@ -295,7 +289,7 @@ public final class BondsEdgesTest {
 
     @Says(at = "Promise 7", words = "if from is no date")
     static void sinksFromNoDate() {
-        for (int date : NO_DATES) {
+        for (int date : Desks.NO_DATES) {
             Check.refusedArgument("setSink from " + date, Desks::busy, desk -> desk.setSink(0, date, 1));
             Check.refusedArgument("setSink of none from " + date, Desks::busy, desk -> desk.setSink(0, date, 0));
         }
@@ -378,7 +372,7 @@ public final class BondsEdgesTest {
 
     @Says(at = "Promise 8", words = "if there is no such bond")
     static void callsNoBond() {
-        for (int bond : NO_BONDS) {
+        for (int bond : Desks.NO_BONDS) {
             Check.refusedIndex("setCall of " + bond, Desks::busy, desk -> desk.setCall(bond, 20260101, 8000));
         }
         Check.refusedIndex("setCall where there is none", BondDesk::new, desk -> desk.setCall(0, 20260101, 8000));
@@ -388,7 +382,7 @@ public final class BondsEdgesTest {
 
     @Says(at = "Promise 8", words = "if from is no date")
     static void callsFromNoDate() {
-        for (int date : NO_DATES) {
+        for (int date : Desks.NO_DATES) {
             Check.refusedArgument("setCall from " + date, Desks::busy, desk -> desk.setCall(0, date, 8000));
             Check.refusedArgument("setCall of none from " + date, Desks::busy, desk -> desk.setCall(1, date, 0));
         }
@@ -515,7 +509,7 @@ public final class BondsEdgesTest {
 
     @Says(at = "Promise 10", words = "if there is no such bond")
     static void tellsNoBond() {
-        for (int bond : NO_BONDS) {
+        for (int bond : Desks.NO_BONDS) {
             Check.refusedIndex("bond(" + bond + ", 0)", Desks::busy, desk -> desk.bond(bond, 0));
         }
         Check.refusedIndex("bond(0, 0) where there is none", BondDesk::new, desk -> desk.bond(0, 0));
@@ -575,7 +569,7 @@ public final class BondsEdgesTest {
 
     @Says(at = "Promise 11", words = "if there is no such bond")
     static void tellsACouponOfNoBond() {
-        for (int bond : NO_BONDS) {
+        for (int bond : Desks.NO_BONDS) {
             Check.refusedIndex("coupon(" + bond + ", 0, 0)", Desks::busy, desk -> desk.coupon(bond, 0, 0));
         }
         Check.refusedIndex("coupon(0, 0, 0) where there is none", BondDesk::new, desk -> desk.coupon(0, 0, 0));
@@ -625,7 +619,7 @@ public final class BondsEdgesTest {
 
     @Says(at = "Promise 12", words = "if there is no such bond")
     static void accruedOfNoBond() {
-        for (int bond : NO_BONDS) {
+        for (int bond : Desks.NO_BONDS) {
             Check.refusedIndex("accrued of " + bond, Desks::busy, desk -> desk.accrued(bond, 20260101));
         }
         Check.refusedIndex("accrued where there is none", BondDesk::new, desk -> desk.accrued(0, 20260101));
@@ -635,7 +629,7 @@ public final class BondsEdgesTest {
 
     @Says(at = "Promise 12", words = "if there is no such date")
     static void accruedOnNoDate() {
-        for (int date : NO_DATES) {
+        for (int date : Desks.NO_DATES) {
             Check.refusedArgument("accrued on " + date, Desks::busy, desk -> desk.accrued(0, date));
             Check.refusedArgument("accrued of one that is gone on " + date, Desks::busy, desk -> desk.accrued(2, date));
         }
@@ -644,7 +638,7 @@ public final class BondsEdgesTest {
     @Says(at = "Promise 12", words = {"Throws `IndexOutOfBoundsException` if there is no such bond",
         "Throws `IllegalArgumentException` if there is no such date"})
     static void accruedOfNoBondOnNoDate() {
-        for (int bond : NO_BONDS) {
+        for (int bond : Desks.NO_BONDS) {
             Check.refusedIndex("accrued of " + bond, Desks::busy, desk -> desk.accrued(bond, 20260229));
         }
     }

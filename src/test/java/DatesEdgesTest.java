@@ -2,9 +2,6 @@ import java.time.LocalDate;
 
 /** The boundary cases of the terms' part 1 and of promises 1 to 5, each sentence in a test of its own. */
 public final class DatesEdgesTest {
-    private static final int[] NO_DATES = {20151231, 20670101, 20260001, 20261301, 20260100, 20260132, 20260229,
-        20260431, 0, -20260101, 260101, Integer.MAX_VALUE, Integer.MIN_VALUE};
-
     public static void main(String[] args) {
         Edges.run(DatesEdgesTest.class);
     }
@@ -34,7 +31,7 @@ public final class DatesEdgesTest {
         weekday(20661231, 4);
         noDate(20151231);
         noDate(20670101);
-        for (int date : NO_DATES) {
+        for (int date : Desks.NO_DATES) {
             noDate(date);
         }
     }
@@ -187,7 +184,7 @@ public final class DatesEdgesTest {
 
     @Says(at = "Promise 2", words = "if there is no such date")
     static void laterThanNoDate() {
-        for (int date : NO_DATES) {
+        for (int date : Desks.NO_DATES) {
             Check.refusedArgument("later(" + date + ", 0)", Desks::busy, desk -> desk.later(date, 0));
         }
     }
@@ -231,7 +228,7 @@ public final class DatesEdgesTest {
 
     @Says(at = "Promise 3", words = "if there is no such date")
     static void weekdayOfNoDate() {
-        for (int date : NO_DATES) {
+        for (int date : Desks.NO_DATES) {
             Check.refusedArgument("weekday(" + date + ")", Desks::busy, desk -> desk.weekday(date));
         }
     }
@@ -263,7 +260,7 @@ public final class DatesEdgesTest {
 
     @Says(at = "Promise 4", words = "if there is no such date")
     static void holidayOnNoDate() {
-        for (int date : NO_DATES) {
+        for (int date : Desks.NO_DATES) {
             Check.refusedArgument("addHoliday(" + date + ")", Desks::busy, desk -> desk.addHoliday(date));
         }
     }
@@ -289,7 +286,7 @@ public final class DatesEdgesTest {
     @Says(at = "Promise 4", words = {"Throws `IllegalArgumentException` if there is no such date",
         "Throws `IllegalStateException` if it is a new one, and there are 30"})
     static void holidayOnNoDateBehind30() {
-        for (int date : NO_DATES) {
+        for (int date : Desks.NO_DATES) {
             Check.refusedArgument("addHoliday(" + date + ")", Desks::full, desk -> desk.addHoliday(date));
         }
     }
@@ -338,7 +335,7 @@ public final class DatesEdgesTest {
 
     @Says(at = "Promise 5", words = "if there is no such date")
     static void workingOnNoDate() {
-        for (int date : NO_DATES) {
+        for (int date : Desks.NO_DATES) {
             Check.refusedArgument("working(" + date + ")", Desks::busy, desk -> desk.working(date));
         }
     }

@@ -3,10 +3,7 @@ import java.util.function.Supplier;
 
 /** The boundary cases of the terms' part 4 and of promises 17 to 20, each sentence in a test of its own. */
 public final class DeskEdgesTest {
-    // On a busy desk there are the bonds 0 to 3.
-    private static final int[] NO_BONDS = {-1, 4, 9, 10, Integer.MAX_VALUE, Integer.MIN_VALUE};
     private static final int[] NO_PIECES = {-1, 0, 1001, Integer.MAX_VALUE, Integer.MIN_VALUE};
-    private static final int[] NO_PRICES = {-1, 0, 30001, Integer.MAX_VALUE, Integer.MIN_VALUE};
 
     public static void main(String[] args) {
         Edges.run(DeskEdgesTest.class);
@@ -245,7 +242,7 @@ public final class DeskEdgesTest {
 
     @Says(at = "Promise 17", words = "if there is no such bond")
     static void buysNoBond() {
-        for (int bond : NO_BONDS) {
+        for (int bond : Desks.NO_BONDS) {
             Check.refusedIndex("buy of " + bond, Desks::busy, desk -> desk.buy(bond, 1, 10000));
         }
         Check.refusedIndex("buy where there is none", BondDesk::new, desk -> desk.buy(0, 1, 10000));
@@ -264,7 +261,7 @@ public final class DeskEdgesTest {
 
     @Says(at = "Promise 17", words = "or price is not 1 to 30000")
     static void buysAtNoPrice() {
-        for (int price : NO_PRICES) {
+        for (int price : Desks.NO_PRICES) {
             Check.refusedArgument("buy at " + price, Desks::busy, desk -> desk.buy(0, 1, price));
         }
         buys(plain(1), 0, 2, 1, 20);
@@ -360,7 +357,7 @@ public final class DeskEdgesTest {
 
     @Says(at = "Promise 18", words = "if there is no such bond")
     static void sellsNoBond() {
-        for (int bond : NO_BONDS) {
+        for (int bond : Desks.NO_BONDS) {
             Check.refusedIndex("sell of " + bond, Desks::busy, desk -> desk.sell(bond, 1, 10000));
         }
         Check.refusedIndex("sell where there is none", BondDesk::new, desk -> desk.sell(0, 1, 10000));
@@ -380,7 +377,7 @@ public final class DeskEdgesTest {
 
     @Says(at = "Promise 18", words = "or price is not 1 to 30000")
     static void sellsAtNoPrice() {
-        for (int price : NO_PRICES) {
+        for (int price : Desks.NO_PRICES) {
             Check.refusedArgument("sell at " + price, Desks::busy, desk -> desk.sell(0, 1, price));
         }
         sells(Desks.busy(), 0, 1, 1, 10 + 4722);

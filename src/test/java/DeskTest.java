@@ -546,30 +546,9 @@ public final class DeskTest {
         Check.same("nothing any more", 0.0, desk::years);
     }
 
-    private static long plainDigest(BondDesk desk, int... holidays) {
-        long d = 647;
-        for (int what = 0; what <= 11; what++) {
-            d = d * 31 + desk.count(what);
-        }
-        for (int holiday : holidays) {
-            d = d * 31 + holiday;
-        }
-        for (int bond = 0; bond < desk.count(3); bond++) {
-            for (int what = 0; what <= 10; what++) {
-                d = d * 31 + desk.bond(bond, what);
-            }
-            d = d * 31 + desk.accrued(bond, (int) desk.count(0));
-            for (int i = 0; i < desk.bond(bond, 7); i++) {
-                d = d * 31 + desk.coupon(bond, i, 0);
-                d = d * 31 + desk.coupon(bond, i, 3);
-            }
-        }
-        return d;
-    }
-
     private static void digest() {
         BondDesk desk = new BondDesk();
-        Check.same("digest of a new one", plainDigest(desk), desk::digest);
+        Check.same("digest of a new one", Desks.plainDigest(desk), desk::digest);
         desk.addHoliday(20260402);
         desk.addHoliday(20260105);
         desk.addBond(20250301, 20270115, 1000, 2, 3);
@@ -577,12 +556,12 @@ public final class DeskTest {
         desk.setSink(0, 20260101, 2500);
         desk.buy(0, 5, 10000);
         desk.buy(1, 6, 10000);
-        Check.same("digest", plainDigest(desk, 20260402, 20260105), desk::digest);
-        Check.same("digest again", plainDigest(desk, 20260402, 20260105), desk::digest);
+        Check.same("digest", Desks.plainDigest(desk, 20260402, 20260105), desk::digest);
+        Check.same("digest again", Desks.plainDigest(desk, 20260402, 20260105), desk::digest);
         desk.pass(100);
-        Check.same("digest behind a sinking", plainDigest(desk, 20260402, 20260105), desk::digest);
+        Check.same("digest behind a sinking", Desks.plainDigest(desk, 20260402, 20260105), desk::digest);
         desk.pass(200);
-        Check.same("digest behind an end", plainDigest(desk, 20260402, 20260105), desk::digest);
+        Check.same("digest behind an end", Desks.plainDigest(desk, 20260402, 20260105), desk::digest);
     }
 
     private static void bad() {

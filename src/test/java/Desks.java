@@ -4,6 +4,13 @@ import java.util.function.Supplier;
 
 /** Desks that tests begin with, and what a desk tells of itself. */
 final class Desks {
+    static final int[] NO_DATES = {20151231, 20670101, 20260001, 20261301, 20260100, 20260132, 20260229, 20260431,
+        0, -20260101, 260101, Integer.MAX_VALUE, Integer.MIN_VALUE};
+
+    /** On a busy desk there are the bonds 0 to 3. */
+    static final int[] NO_BONDS = {-1, 4, 9, 10, Integer.MAX_VALUE, Integer.MIN_VALUE};
+    static final int[] NO_PRICES = {-1, 0, 30001, Integer.MAX_VALUE, Integer.MIN_VALUE};
+
     private Desks() {
     }
 
@@ -72,6 +79,28 @@ final class Desks {
 
     static int date(LocalDate day) {
         return 10000 * day.getYear() + 100 * day.getMonthValue() + day.getDayOfMonth();
+    }
+
+    /** The digest, from what the calls tell; the holidays are named as they were told. */
+    static long plainDigest(BondDesk desk, int... holidays) {
+        long d = 647;
+        for (int what = 0; what <= 11; what++) {
+            d = d * 31 + desk.count(what);
+        }
+        for (int holiday : holidays) {
+            d = d * 31 + holiday;
+        }
+        for (int bond = 0; bond < desk.count(3); bond++) {
+            for (int what = 0; what <= 10; what++) {
+                d = d * 31 + desk.bond(bond, what);
+            }
+            d = d * 31 + desk.accrued(bond, (int) desk.count(0));
+            for (int i = 0; i < desk.bond(bond, 7); i++) {
+                d = d * 31 + desk.coupon(bond, i, 0);
+                d = d * 31 + desk.coupon(bond, i, 3);
+            }
+        }
+        return d;
     }
 
     /** All that a desk tells today and on four days to come: two desks that tell the same are alike. */

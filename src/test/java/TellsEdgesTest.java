@@ -1,7 +1,6 @@
 /** The boundary cases of promises 21 to 25, each sentence in a test of its own. */
 public final class TellsEdgesTest {
     private static final int[] NO_YEARS = {2015, 2067, 0, -2026, 20260101, Integer.MAX_VALUE, Integer.MIN_VALUE};
-    private static final int[] NO_PRICES = {-1, 0, 30001, Integer.MAX_VALUE, Integer.MIN_VALUE};
 
     public static void main(String[] args) {
         Edges.run(TellsEdgesTest.class);
@@ -416,7 +415,7 @@ public final class TellsEdgesTest {
 
     @Says(at = "Promise 23", words = "if price is not 1 to 30000")
     static void bestAtNoPrice() {
-        for (int price : NO_PRICES) {
+        for (int price : Desks.NO_PRICES) {
             Check.refusedArgument("best(" + price + ")", Desks::busy, desk -> desk.best(price));
             Check.refusedArgument("best(" + price + ") of none", BondDesk::new, desk -> desk.best(price));
         }
@@ -476,29 +475,8 @@ public final class TellsEdgesTest {
 
     // ---- Promise 25
 
-    private static long plainDigest(BondDesk desk, int... holidays) {
-        long d = 647;
-        for (int what = 0; what <= 11; what++) {
-            d = d * 31 + desk.count(what);
-        }
-        for (int holiday : holidays) {
-            d = d * 31 + holiday;
-        }
-        for (int bond = 0; bond < desk.count(3); bond++) {
-            for (int what = 0; what <= 10; what++) {
-                d = d * 31 + desk.bond(bond, what);
-            }
-            d = d * 31 + desk.accrued(bond, (int) desk.count(0));
-            for (int i = 0; i < desk.bond(bond, 7); i++) {
-                d = d * 31 + desk.coupon(bond, i, 0);
-                d = d * 31 + desk.coupon(bond, i, 3);
-            }
-        }
-        return d;
-    }
-
     private static void digest(BondDesk desk, int... holidays) {
-        Check.same("digest()", plainDigest(desk, holidays), desk::digest);
+        Check.same("digest()", Desks.plainDigest(desk, holidays), desk::digest);
     }
 
     @Says(at = "Promise 25", words = "A number d starts with 647")
@@ -537,15 +515,14 @@ public final class TellsEdgesTest {
     @Says(at = "Promise 25", words = "for each bond what bond() tells, in its order, its accrued interest today, and of each of its"
             + " coupon dates the date and what coupon() tells of its coupon (for a face of 100000).")
     static void digestOfBonds() {
-        BondDesk desk = Desks.busy();
-        digest(desk, 20260106, 20260716);
-        Desks.passTo(desk, 20260715);
-        digest(desk, 20260106, 20260716);
-        Desks.passTo(desk, 20270115);
-        digest(desk, 20260106, 20260716);
-        Desks.passTo(desk, 20300120);
-        Check.same("those that are there", 0L, () -> desk.count(4));
-        digest(desk, 20260106, 20260716);
+        int[] there = {3, 3, 2, 0};
+        int[] dates = {20260105, 20260715, 20270114, 20300120};
+        for (int i = 0; i < dates.length; i++) {
+            BondDesk desk = Desks.busy();
+            Desks.passTo(desk, dates[i]);
+            Check.same("bonds that are there on " + dates[i], (long) there[i], () -> desk.count(4));
+            digest(desk, 20260106, 20260716);
+        }
     }
 
     @Says(at = "Promise 25", words = "Returns d.")

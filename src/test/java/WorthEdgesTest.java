@@ -2,10 +2,7 @@ import java.util.function.Supplier;
 
 /** The boundary cases of the terms' part 3 and of promises 13 to 16, each sentence in a test of its own. */
 public final class WorthEdgesTest {
-    // On a busy desk there are the bonds 0 to 3.
-    private static final int[] NO_BONDS = {-1, 4, 9, 10, Integer.MAX_VALUE, Integer.MIN_VALUE};
     private static final int[] NO_YIELDS = {-1, 5001, Integer.MAX_VALUE, Integer.MIN_VALUE};
-    private static final int[] NO_PRICES = {-1, 0, 30001, Integer.MAX_VALUE, Integer.MIN_VALUE};
 
     public static void main(String[] args) {
         Edges.run(WorthEdgesTest.class);
@@ -195,7 +192,7 @@ public final class WorthEdgesTest {
 
     @Says(at = "Promise 13", words = "if there is no such bond")
     static void worthOfNoBond() {
-        for (int bond : NO_BONDS) {
+        for (int bond : Desks.NO_BONDS) {
             Check.refusedIndex("worth of " + bond, Desks::busy, desk -> desk.worth(bond, 300));
         }
         Check.refusedIndex("worth where there is none", BondDesk::new, desk -> desk.worth(0, 300));
@@ -298,7 +295,7 @@ public final class WorthEdgesTest {
 
     @Says(at = "Promise 14", words = "if there is no such bond")
     static void yieldOfNoBond() {
-        for (int bond : NO_BONDS) {
+        for (int bond : Desks.NO_BONDS) {
             Check.refusedIndex("yields of " + bond, Desks::busy, desk -> desk.yields(bond, 10000));
         }
         Check.refusedIndex("yields where there is none", BondDesk::new, desk -> desk.yields(0, 10000));
@@ -308,7 +305,7 @@ public final class WorthEdgesTest {
 
     @Says(at = "Promise 14", words = "if price is not 1 to 30000")
     static void yieldAtNoPrice() {
-        for (int price : NO_PRICES) {
+        for (int price : Desks.NO_PRICES) {
             Check.refusedArgument("yields at " + price, Desks::busy, desk -> desk.yields(0, price));
             Check.refusedArgument("yields of one that is gone at " + price, Desks::busy, desk -> desk.yields(2, price));
         }
@@ -321,7 +318,7 @@ public final class WorthEdgesTest {
     @Says(at = "Promise 14", words = {"Throws `IndexOutOfBoundsException` if there is no such bond",
         "Throws `IllegalArgumentException` if price is not 1 to 30000"})
     static void yieldOfNoBondAtNoPrice() {
-        for (int price : NO_PRICES) {
+        for (int price : Desks.NO_PRICES) {
             Check.refusedIndex("yields of 4 at " + price, Desks::busy, desk -> desk.yields(4, price));
         }
     }
@@ -340,7 +337,7 @@ public final class WorthEdgesTest {
 
     @Says(at = "Promise 15", words = "if there is no such bond")
     static void movesOfNoBond() {
-        for (int bond : NO_BONDS) {
+        for (int bond : Desks.NO_BONDS) {
             Check.refusedIndex("moves of " + bond, Desks::busy, desk -> desk.moves(bond, 300));
         }
         Check.refusedIndex("moves where there is none", BondDesk::new, desk -> desk.moves(0, 300));
@@ -485,7 +482,7 @@ public final class WorthEdgesTest {
 
     @Says(at = "Promise 16", words = "if there is no such bond")
     static void rateOfNoBond() {
-        for (int bond : NO_BONDS) {
+        for (int bond : Desks.NO_BONDS) {
             Check.refusedIndex("callsAt(" + bond + ")", Desks::busy, desk -> desk.callsAt(bond));
         }
         Check.refusedIndex("callsAt where there is none", BondDesk::new, desk -> desk.callsAt(0));
